@@ -589,9 +589,13 @@ public final class PromiseScopes {
         /** Leaves the LINE as it is: several stages may be settled before it is worked off. */
         void settle(Stage stage, int state, int content) {
             stage.become(state, content);
+            noteTurn(stage);
+            queueAllThatAreAble();
+        }
+
+        private void noteTurn(Stage stage) {
             stage.turn = settled;
             settled++;
-            queueAllThatAreAble();
         }
 
         void workOffLine() {
@@ -621,8 +625,7 @@ public final class PromiseScopes {
             }
             decide(stage);
             if (stage.state != Stage.PENDING) {
-                stage.turn = settled;
-                settled++;
+                noteTurn(stage);
             }
             queueAllThatAreAble();
         }

@@ -89,7 +89,8 @@ final class Checks {
     }
 
     void end() {
-        System.out.println(wrong == 0 ? made + " answers are as due" : wrong + " of " + made + " answers are not as due");
+        String told = wrong == 0 ? made + " answers are as due" : wrong + " of " + made + " answers are not as due";
+        System.out.println(told);
         System.exit(wrong == 0 ? 0 : 1);
     }
 }

@@ -38,6 +38,7 @@ public final class ScopeTest {
         openWithFewStages();
         effectiveDeadline();
         bind();
+        bindRefusals();
         bindOfAParentLater();
         fork();
         forkTakesTheBindingOfThen();
@@ -113,20 +114,18 @@ public final class ScopeTest {
 
     private static void openRefusals() {
         Class<IllegalArgumentException> due = IllegalArgumentException.class;
-        PromiseScopes x = new PromiseScopes();
-        x.open(-1, ALL, -1);
-        x.open(-1, ALL, -1);
-        x.fork(1, 2, ADD, 0);
-        x.joinScope(1);
+        for (int parent : new int[] {-2, 2, MAX, MIN}) {
+            PromiseScopes y = openAndJoining();
+            CHECKS.refusesIdly(y, "open in " + parent, due, () -> y.open(parent, ALL, -1));
+        }
+        for (int policy : new int[] {-1, 3, MAX, MIN}) {
+            PromiseScopes y = openAndJoining();
+            CHECKS.refusesIdly(y, "open with policy " + policy, due, () -> y.open(-1, policy, -1));
+        }
+        PromiseScopes x = openAndJoining();
         CHECKS.refusesIdly(x, "open in a joining scope", due, () -> x.open(1, ALL, -1));
         x.tick(2);
         CHECKS.refusesIdly(x, "open in a closed scope", due, () -> x.open(1, ALL, -1));
-        for (int parent : new int[] {-2, 2, MAX, MIN}) {
-            CHECKS.refusesIdly(x, "open in " + parent, due, () -> x.open(parent, ALL, -1));
-        }
-        for (int policy : new int[] {-1, 3, MAX, MIN}) {
-            CHECKS.refusesIdly(x, "open with policy " + policy, due, () -> x.open(-1, policy, -1));
-        }
         for (int i = 2; i < 12; i++) {
             CHECKS.equal("open", x.open(i % 2 == 0 ? 0 : -1, ALL, -1), i);
         }
@@ -136,6 +135,19 @@ public final class ScopeTest {
         CHECKS.refuses("wrong open of 13", due, () -> x.open(1, 0, -1));
         CHECKS.equal("count(0)", x.count(0), 12);
         CHECKS.equal("count(2)", x.count(2), 12);
+        CHECKS.equal("scope(11, 0)", x.scope(11, 0), OPEN);
+        CHECKS.equal("scope(12, 0)", x.scope(12, 0), -1);
+        CHECKS.no("joinScope(12)", x.joinScope(12));
+    }
+
+    /** Scope 0 is open, scope 1 joins, and has a task that ends in two ticks. */
+    private static PromiseScopes openAndJoining() {
+        PromiseScopes x = new PromiseScopes();
+        x.open(-1, ALL, -1);
+        x.open(-1, ALL, -1);
+        x.fork(1, 2, CONSTANT, 0);
+        x.joinScope(1);
+        return x;
     }
 
     private static void openWithFewStages() {
@@ -164,6 +176,8 @@ public final class ScopeTest {
         CHECKS.equal("scope(8, 2)", x.scope(8, 2), MAX);
         x.open(8, ALL, 30);
         CHECKS.equal("scope(9, 2)", x.scope(9, 2), 30);
+        x.open(8, ALL, 0);
+        CHECKS.equal("scope(10, 2)", x.scope(10, 2), 0);
     }
 
     private static void bind() {
@@ -177,20 +191,24 @@ public final class ScopeTest {
         CHECKS.yes("bind", x.bind(0, 1, MIN));
         CHECKS.equal("bound", x.bound(0, 1), MIN);
         CHECKS.equal("bound", x.bound(0, 0), -5);
-        for (int key : new int[] {-1, 4, MAX, MIN}) {
-            CHECKS.idle(x, "bind of key " + key, 0, () -> x.bind(0, key, 1) ? 1 : 0);
-        }
-        for (int scope : new int[] {-1, 1, MAX, MIN}) {
-            CHECKS.idle(x, "bind in " + scope, 0, () -> x.bind(scope, 0, 1) ? 1 : 0);
-        }
         x.fork(0, 1, ADD, 0);
         CHECKS.yes("cancelScope", x.cancelScope(0));
         CHECKS.yes("bind in a stopped scope that is open", x.bind(0, 2, 8));
-        x.open(-1, ALL, -1);
-        x.fork(1, 1, ADD, 0);
-        x.joinScope(1);
+        CHECKS.equal("bound", x.bound(0, 2), 8);
+    }
+
+    private static void bindRefusals() {
+        for (int key : new int[] {-1, 4, MAX, MIN}) {
+            PromiseScopes x = openAndJoining();
+            CHECKS.idle(x, "bind of key " + key, 0, () -> x.bind(0, key, 1) ? 1 : 0);
+        }
+        for (int scope : new int[] {-1, 2, MAX, MIN}) {
+            PromiseScopes x = openAndJoining();
+            CHECKS.idle(x, "bind in " + scope, 0, () -> x.bind(scope, 0, 1) ? 1 : 0);
+        }
+        PromiseScopes x = openAndJoining();
         CHECKS.idle(x, "bind in a joining scope", 0, () -> x.bind(1, 0, 1) ? 1 : 0);
-        x.tick(1);
+        x.tick(2);
         CHECKS.idle(x, "bind in a closed scope", 0, () -> x.bind(1, 0, 1) ? 1 : 0);
     }
 
@@ -225,6 +243,7 @@ public final class ScopeTest {
         CHECKS.refuses("wrong fork of 31", IllegalArgumentException.class, () -> x.fork(0, 0, 0, 0));
         CHECKS.refuses("wrong fork of 31", IllegalArgumentException.class, () -> x.fork(2, 1, 0, 0));
         CHECKS.equal("count(3)", x.count(3), 30);
+        CHECKS.equal("task(30, 0)", x.task(30, 0), -1);
         CHECKS.equal("scope(0, 3)", x.scope(0, 3), 15);
         CHECKS.equal("count(0)", x.count(0), 2);
     }
@@ -263,22 +282,21 @@ public final class ScopeTest {
 
     private static void forkRefusals() {
         Class<IllegalArgumentException> due = IllegalArgumentException.class;
-        PromiseScopes x = new PromiseScopes();
-        x.open(-1, ALL, -1);
-        x.open(-1, ALL, -1);
-        x.fork(1, 2, 0, 0);
-        x.joinScope(1);
+        PromiseScopes x = openAndJoining();
         CHECKS.refusesIdly(x, "fork in a joining scope", due, () -> x.fork(1, 1, 0, 0));
         x.tick(2);
         CHECKS.refusesIdly(x, "fork in a closed scope", due, () -> x.fork(1, 1, 0, 0));
         for (int scope : new int[] {-1, 2, MAX, MIN}) {
-            CHECKS.refusesIdly(x, "fork in " + scope, due, () -> x.fork(scope, 1, 0, 0));
+            PromiseScopes y = openAndJoining();
+            CHECKS.refusesIdly(y, "fork in " + scope, due, () -> y.fork(scope, 1, 0, 0));
         }
         for (int cost : new int[] {0, -1, 51, MAX, MIN}) {
-            CHECKS.refusesIdly(x, "fork with cost " + cost, due, () -> x.fork(0, cost, 0, 0));
+            PromiseScopes y = openAndJoining();
+            CHECKS.refusesIdly(y, "fork with cost " + cost, due, () -> y.fork(0, cost, 0, 0));
         }
         for (int function : new int[] {-1, 6, MAX, MIN}) {
-            CHECKS.refusesIdly(x, "fork with function " + function, due, () -> x.fork(0, 1, function, 0));
+            PromiseScopes y = openAndJoining();
+            CHECKS.refusesIdly(y, "fork with function " + function, due, () -> y.fork(0, 1, function, 0));
         }
         CHECKS.equal("fork", x.fork(0, 50, 5, 0), 1);
         CHECKS.equal("tick(49)", x.tick(49), 0);
@@ -325,15 +343,19 @@ public final class ScopeTest {
         CHECKS.idle(x, "joinScope(1)", 0, () -> x.joinScope(1) ? 1 : 0);
         CHECKS.yes("joinScope(2)", x.joinScope(2));
         scope(x, 2, JOINING, 1, 0, 0);
-        CHECKS.idle(x, "joinScope(2)", 0, () -> x.joinScope(2) ? 1 : 0);
-        CHECKS.idle(x, "joinScope(0)", 0, () -> x.joinScope(0) ? 1 : 0);
+        CHECKS.no("joinScope(2) again", x.joinScope(2));
+        CHECKS.no("joinScope(0) over an open one", x.joinScope(0));
+        scope(x, 2, JOINING, 1, 0, 0);
+        scope(x, 0, OPEN, 0, 0, 0);
         CHECKS.yes("joinScope(1) over a joining one", x.joinScope(1));
         CHECKS.yes("joinScope(0) over joining ones", x.joinScope(0));
         x.tick(2);
         scope(x, 2, CLOSED, 0, 0, 0);
-        CHECKS.idle(x, "joinScope(2) of a closed one", 0, () -> x.joinScope(2) ? 1 : 0);
-        for (int scope : new int[] {-1, 3, MAX, MIN}) {
-            CHECKS.idle(x, "joinScope(" + scope + ")", 0, () -> x.joinScope(scope) ? 1 : 0);
+        CHECKS.no("joinScope(2) of a closed one", x.joinScope(2));
+        scope(x, 2, CLOSED, 0, 0, 0);
+        for (int scope : new int[] {-1, 2, MAX, MIN}) {
+            PromiseScopes y = openAndJoining();
+            CHECKS.idle(y, "joinScope(" + scope + ")", 0, () -> y.joinScope(scope) ? 1 : 0);
         }
     }
 
@@ -344,11 +366,13 @@ public final class ScopeTest {
         x.open(-1, ALL, -1);
         x.fork(1, 1, CONSTANT, 3);
         x.fork(2, 1, CONSTANT, 30);
+        x.then(1, 0, ADD, 1, false);
         x.tick(1);
         CHECKS.stage(x, 1, PENDING, 0);
         CHECKS.yes("joinScope(1)", x.joinScope(1));
         scope(x, 1, CLOSED, 0, 0, 0);
         CHECKS.stage(x, 1, VALUE, 3);
+        CHECKS.stage(x, 3, VALUE, 4);
         scope(x, 0, OPEN, 0, 0, 0);
         scope(x, 2, OPEN, 0, 0, 0);
         CHECKS.yes("joinScope(0)", x.joinScope(0));
@@ -404,8 +428,9 @@ public final class ScopeTest {
         scope(x, 2, OPEN, 0, 1, 0);
         scope(x, 3, OPEN, 1, 0, 0);
         CHECKS.yes("cancelScope(1) again", x.cancelScope(1));
-        for (int scope : new int[] {-1, 4, MAX, MIN}) {
-            CHECKS.idle(x, "cancelScope(" + scope + ")", 0, () -> x.cancelScope(scope) ? 1 : 0);
+        for (int scope : new int[] {-1, 2, MAX, MIN}) {
+            PromiseScopes y = openAndJoining();
+            CHECKS.idle(y, "cancelScope(" + scope + ")", 0, () -> y.cancelScope(scope) ? 1 : 0);
         }
         x.joinScope(2);
         scope(x, 2, CLOSED, 0, 1, 0);
@@ -877,10 +902,10 @@ public final class ScopeTest {
         CHECKS.equal("bound(1, 3)", x.bound(1, 3), -9);
         CHECKS.equal("bound(1, 0)", x.bound(1, 0), 0);
         for (int key : new int[] {-1, 4, MAX, MIN}) {
-            CHECKS.refusesIdly(x, "bound(0, " + key + ")", IllegalArgumentException.class, () -> x.bound(0, key));
+            CHECKS.refuses("bound(0, " + key + ")", IllegalArgumentException.class, () -> x.bound(0, key));
         }
         for (int scope : new int[] {-1, 2, MAX, MIN}) {
-            CHECKS.refusesIdly(x, "bound(" + scope + ", 0)", IllegalArgumentException.class, () -> x.bound(scope, 0));
+            CHECKS.refuses("bound(" + scope + ", 0)", IllegalArgumentException.class, () -> x.bound(scope, 0));
         }
     }
 

@@ -43,6 +43,7 @@ public final class StageTest {
         composeWithoutStage();
         composeThatNeverEnds();
         composeGoesToTheLinesEnd();
+        composeInEveryStage();
         composeAsync();
         bothCombine();
         bothEither();
@@ -170,6 +171,7 @@ public final class StageTest {
         ofValue(APPLY, 5, 2, -7, VALUE, -3);
         ofValue(APPLY, 5, -2, 7, VALUE, -3);
         ofValue(APPLY, 5, 8, 7, VALUE, 0);
+        ofValue(APPLY, 5, 1, 7, VALUE, 7);
         ofValue(APPLY, 5, -1, MIN, VALUE, MIN);
         ofValue(APPLY, 5, 0, 7, WRAPPED, 9);
         ofValue(APPLY, 5, 0, 0, WRAPPED, 9);
@@ -234,26 +236,35 @@ public final class StageTest {
 
     private static void thenRefusals() {
         Class<IllegalArgumentException> due = IllegalArgumentException.class;
-        PromiseScopes x = new PromiseScopes();
-        x.source();
-        x.source();
-        CHECKS.refusesIdly(x, "then(-1)", due, () -> x.then(-1, 0, 0, 0, false));
-        CHECKS.refusesIdly(x, "then(2)", due, () -> x.then(2, 0, 0, 0, false));
-        CHECKS.refusesIdly(x, "then(MAX)", due, () -> x.then(MAX, 0, 0, 0, true));
-        CHECKS.refusesIdly(x, "then(MIN)", due, () -> x.then(MIN, 0, 0, 0, true));
+        for (int s : new int[] {-1, 2, MAX, MIN}) {
+            PromiseScopes x = twoSources();
+            CHECKS.refusesIdly(x, "then on " + s, due, () -> x.then(s, 0, 0, 0, false));
+            CHECKS.refusesIdly(x, "then on " + s, due, () -> x.then(s, 0, 0, 0, true));
+        }
         for (int kind : new int[] {-1, 5, 6, 7, 8, 9, MAX, MIN}) {
+            PromiseScopes x = twoSources();
             CHECKS.refusesIdly(x, "then of kind " + kind, due, () -> x.then(0, kind, 0, 0, false));
         }
         for (int function : new int[] {-1, 6, MAX, MIN}) {
+            PromiseScopes x = twoSources();
             CHECKS.refusesIdly(x, "then of function " + function, due, () -> x.then(0, 0, function, 0, false));
         }
-        CHECKS.equal("then", x.then(1, 4, 5, MIN, true), 2);
+        CHECKS.equal("then", twoSources().then(1, 4, 5, MIN, true), 2);
         PromiseScopes full = full();
         CHECKS.refuses("then with 48 stages", IllegalStateException.class, () -> full.then(0, 0, 0, 0, false));
         CHECKS.refuses("then with 48 stages", IllegalStateException.class, () -> full.then(47, 4, 5, 0, true));
         CHECKS.refuses("wrong then with 48 stages", due, () -> full.then(48, 0, 0, 0, false));
         CHECKS.refuses("wrong then with 48 stages", due, () -> full.then(0, 5, 0, 0, false));
         CHECKS.equal("count(0)", full.count(0), 48);
+    }
+
+    /** The first one with a value, so that a stage built on it by mistake shows at once. */
+    private static PromiseScopes twoSources() {
+        PromiseScopes x = new PromiseScopes();
+        x.source();
+        x.source();
+        x.complete(0, 1);
+        return x;
     }
 
     private static PromiseScopes full() {
@@ -361,6 +372,20 @@ public final class StageTest {
         CHECKS.stage(x, 5, VALUE, 71);
     }
 
+    private static void composeInEveryStage() {
+        PromiseScopes x = new PromiseScopes();
+        x.source();
+        x.source();
+        x.complete(1, 5);
+        for (int s = 2; s < 48; s++) {
+            x.then(0, COMPOSE, CONSTANT, s - 1, false);
+        }
+        CHECKS.yes("complete(0, 0)", x.complete(0, 0));
+        for (int s = 2; s < 48; s++) {
+            CHECKS.stage(x, s, VALUE, 5);
+        }
+    }
+
     private static void composeAsync() {
         PromiseScopes x = new PromiseScopes();
         x.source();
@@ -456,18 +481,17 @@ public final class StageTest {
 
     private static void bothRefusals() {
         Class<IllegalArgumentException> due = IllegalArgumentException.class;
-        PromiseScopes x = new PromiseScopes();
-        x.source();
-        x.source();
-        x.complete(0, 1);
         for (int wrong : new int[] {-1, 2, MAX, MIN}) {
+            PromiseScopes x = twoSources();
             CHECKS.refusesIdly(x, "both on first " + wrong, due, () -> x.both(wrong, 1, 5, 0, 0, false));
             CHECKS.refusesIdly(x, "both on second " + wrong, due, () -> x.both(0, wrong, 6, 0, 0, false));
         }
         for (int kind : new int[] {-1, 0, 4, 7, 8, 9, MAX, MIN}) {
+            PromiseScopes x = twoSources();
             CHECKS.refusesIdly(x, "both of kind " + kind, due, () -> x.both(0, 1, kind, 0, 0, false));
         }
         for (int function : new int[] {-1, 6, MAX, MIN}) {
+            PromiseScopes x = twoSources();
             CHECKS.refusesIdly(x, "both of function " + function, due, () -> x.both(0, 1, 5, function, 0, true));
         }
         PromiseScopes full = full();
@@ -528,14 +552,13 @@ public final class StageTest {
 
     private static void severalRefusals() {
         Class<IllegalArgumentException> due = IllegalArgumentException.class;
-        PromiseScopes x = new PromiseScopes();
-        x.source();
-        x.source();
         for (long set : new long[] {0, 4, 7, -1, Long.MIN_VALUE, 1L << 48, 1L << 32 | 1, 1L << 63 | 1}) {
+            PromiseScopes x = twoSources();
             CHECKS.refusesIdly(x, "several of " + set, due, () -> x.several(set, 7));
             CHECKS.refusesIdly(x, "several of " + set, due, () -> x.several(set, 8));
         }
         for (int kind : new int[] {-1, 0, 4, 5, 6, 9, MAX, MIN}) {
+            PromiseScopes x = twoSources();
             CHECKS.refusesIdly(x, "several of kind " + kind, due, () -> x.several(3, kind));
         }
         PromiseScopes full = full();
@@ -600,11 +623,12 @@ public final class StageTest {
             CHECKS.yes("fail", x.fail(s, e));
             CHECKS.stage(x, s, FAILURE, e);
         }
+        for (int e : new int[] {0, 10, -1, MAX, MIN}) {
+            PromiseScopes y = twoSources();
+            CHECKS.idle(y, "fail with " + e, 0, () -> y.fail(1, e) ? 1 : 0);
+        }
         int s = x.source();
         int after = x.then(s, APPLY, ADD, 0, false);
-        for (int e : new int[] {0, 10, -1, MAX, MIN}) {
-            CHECKS.idle(x, "fail with " + e, 0, () -> x.fail(s, e) ? 1 : 0);
-        }
         CHECKS.no("fail(-1, 1)", x.fail(-1, 1));
         CHECKS.no("fail(11, 1)", x.fail(11, 1));
         CHECKS.no("fail(0, 2)", x.fail(0, 2));
