@@ -59,15 +59,21 @@ public final class PromiseScopes {
     }
 
     public boolean complete(int s, int v) {
-        return settleFromOutside(s, Stage.VALUE, v);
+        boolean settled = graph.settleIfPending(s, Stage.VALUE, v);
+        graph.workOffLine();
+        return settled;
     }
 
     public boolean fail(int s, int e) {
-        return e >= 1 && e <= 9 && settleFromOutside(s, Stage.FAILURE, e);
+        boolean settled = e >= 1 && e <= 9 && graph.settleIfPending(s, Stage.FAILURE, e);
+        graph.workOffLine();
+        return settled;
     }
 
     public boolean cancel(int s) {
-        return settleFromOutside(s, Stage.FAILURE, 0);
+        boolean settled = graph.settleIfPending(s, Stage.FAILURE, 0);
+        graph.workOffLine();
+        return settled;
     }
 
     public int work(int n) {
@@ -250,16 +256,6 @@ public final class PromiseScopes {
 
     private static boolean isStepCount(int n) {
         return n >= 0 && n <= MOST_STEPS_A_CALL;
-    }
-
-    private boolean settleFromOutside(int s, int state, int content) {
-        Stage found = graph.find(s);
-        if (found == null || found.state != Stage.PENDING) {
-            return false;
-        }
-        graph.settle(found, state, content);
-        graph.workOffLine();
-        return true;
     }
 
     /** The functions that stages and tasks use; what one throws is a number here, no Java exception. */
@@ -593,6 +589,16 @@ public final class PromiseScopes {
             queueAllThatAreAble();
         }
 
+        /** False if there is none such or it has an outcome. */
+        boolean settleIfPending(int s, int state, int content) {
+            Stage found = find(s);
+            if (found == null || found.state != Stage.PENDING) {
+                return false;
+            }
+            settle(found, state, content);
+            return true;
+        }
+
         private void noteTurn(Stage stage) {
             stage.turn = settled;
             settled++;
@@ -682,10 +688,13 @@ public final class PromiseScopes {
                 stage.follow(stage.awaited);
                 return;
             }
-            boolean named = input.state == Stage.VALUE
-                    && Functions.thrownFor(stage.function, stage.a, input.content) == 0;
-            if (!named) {
-                stage.applyTo(input);
+            if (input.state != Stage.VALUE) {
+                stage.follow(input);
+                return;
+            }
+            int thrown = Functions.thrownFor(stage.function, stage.a, input.content);
+            if (thrown != 0) {
+                stage.become(Stage.WRAPPED, thrown);
                 return;
             }
             stage.awaited = find(Functions.madeOf(stage.function, stage.a, input.content));
