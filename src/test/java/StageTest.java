@@ -328,6 +328,8 @@ public final class StageTest {
         ofValue(COMPOSE, THROW, 3, 0, WRAPPED, 4);
         ofValue(COMPOSE, DIVIDE, 0, 0, WRAPPED, 9);
         ofValue(COMPOSE, REFUSE_ONE, 0, 0, WRAPPED, 1);
+        ofValue(COMPOSE, THROW, 3, 77, WRAPPED, 4);
+        ofValue(COMPOSE, REFUSE_ONE, -5, -5, WRAPPED, 4);
         PromiseScopes x = new PromiseScopes();
         x.source();
         x.then(0, COMPOSE, CONSTANT, 3, true);
